@@ -1,0 +1,56 @@
+import java.lang.reflect.InvocationTargetException;
+import java.lang.reflect.Method;
+import java.lang.reflect.Modifier;
+import java.util.Arrays;
+import java.util.Comparator;
+
+/** Runs every static method without parameters of the test classes as a test; takes the path of CardTerminal.java. */
+public final class AllTests {
+    private static final Class<?>[] TESTS = {
+        ExamplesTest.class, DataObjectsTest.class, CardTest.class, TerminalTest.class,
+        CandidatesTest.class, TransactionsTest.class, ModelTest.class, FaceTest.class, LanguageTest.class,
+    };
+
+    private AllTests() {
+    }
+
+    public static void main(String[] args) throws Exception {
+        if (args.length > 0) {
+            LanguageTest.source = args[0];
+        }
+        int passed = 0;
+        int failed = 0;
+        for (Class<?> tests : TESTS) {
+            for (Method test : testsOf(tests)) {
+                if (passes(test)) {
+                    passed++;
+                } else {
+                    failed++;
+                    System.out.println("FAILED " + tests.getSimpleName() + "." + test.getName());
+                }
+            }
+        }
+        System.out.println("own: " + passed + " passed, " + failed + " failed");
+        System.exit(failed == 0 && passed > 0 ? 0 : 1);
+    }
+
+    private static Method[] testsOf(Class<?> tests) {
+        // Reflection gives the methods in no fixed order.
+        return Arrays.stream(tests.getDeclaredMethods())
+            .filter(m -> Modifier.isStatic(m.getModifiers()) && !Modifier.isPrivate(m.getModifiers()))
+            .filter(m -> m.getParameterCount() == 0 && !m.isSynthetic())
+            .sorted(Comparator.comparing(Method::getName))
+            .toArray(Method[]::new);
+    }
+
+    private static boolean passes(Method test) throws IllegalAccessException {
+        Checks.begin();
+        try {
+            test.invoke(null);
+        } catch (InvocationTargetException e) {
+            e.getCause().printStackTrace(System.out);
+            return false;
+        }
+        return Checks.allGood();
+    }
+}
