@@ -75,7 +75,7 @@ public final class CardTerminal {
 
     public int errorOffset() {
         objects.read(buffer);
-        return objects.brokenAt == NONE ? NOT_FOUND : objects.brokenAt;
+        return objects.isBroken() ? objects.brokenAt : NOT_FOUND;
     }
 
     public int objectCount() {
@@ -403,7 +403,6 @@ public final class CardTerminal {
         }
     }
 
-    /** The byte buffer. */
     private static final class Bytes {
         final int[] values = new int[MAX_BYTES];
         int size = 0;
