@@ -128,43 +128,34 @@ final class TransactionsTest {
         Checks.due("received", resultsOf(x, 1, 0), 0);
     }
 
-    /** With one bit in the results, each code of one bit hits or does not. */
-    static void promise23DenialOfEachSide() {
+    /** The results have bit 4 alone, so of all codes of one bit only that bit's may give the outcome hit. */
+    private static void codesOfEachSide(int number, boolean online, int hit) {
         for (int bit = 0; bit < 7; bit++) {
-            int want = bit == 4 ? 0 : 1;
+            int want = bit == 4 ? hit : 1;
             CardTerminal x = Checks.readyWithoutCodes();
-            x.setTerminalCode(0, 1 << bit);
-            Checks.due("terminal denial, bit " + bit, x.start(1, 0), want);
+            x.setOnline(online);
+            x.setTerminalCode(number, 1 << bit);
+            Checks.due("terminal code " + number + ", bit " + bit, x.start(1, 0), want);
             CardTerminal y = Checks.readyWithoutCodes();
-            y.setIssuerCode(0, 1 << bit);
-            Checks.due("issuer denial, bit " + bit, y.start(1, 0), want);
+            y.setOnline(online);
+            y.setIssuerCode(number, 1 << bit);
+            Checks.due("issuer code " + number + ", bit " + bit, y.start(1, 0), want);
         }
+    }
+
+    static void promise23DenialOfEachSide() {
+        codesOfEachSide(0, true, 0);
+        codesOfEachSide(0, false, 0);
     }
 
     static void promise23OnlineOfEachSide() {
-        for (int bit = 0; bit < 7; bit++) {
-            int want = bit == 4 ? 3 : 1;
-            CardTerminal x = Checks.readyWithoutCodes();
-            x.setTerminalCode(1, 1 << bit);
-            Checks.due("terminal online, bit " + bit, x.start(1, 0), want);
-            CardTerminal y = Checks.readyWithoutCodes();
-            y.setIssuerCode(1, 1 << bit);
-            Checks.due("issuer online, bit " + bit, y.start(1, 0), want);
-        }
+        codesOfEachSide(1, true, 3);
+        codesOfEachSide(1, false, 1);
     }
 
     static void promise23DefaultOfEachSide() {
-        for (int bit = 0; bit < 7; bit++) {
-            int want = bit == 4 ? 0 : 1;
-            CardTerminal x = Checks.readyWithoutCodes();
-            x.setOnline(false);
-            x.setTerminalCode(2, 1 << bit);
-            Checks.due("terminal default, bit " + bit, x.start(1, 0), want);
-            CardTerminal y = Checks.readyWithoutCodes();
-            y.setOnline(false);
-            y.setIssuerCode(2, 1 << bit);
-            Checks.due("issuer default, bit " + bit, y.start(1, 0), want);
-        }
+        codesOfEachSide(2, true, 1);
+        codesOfEachSide(2, false, 0);
     }
 
     static void promise23OrderOfTheRules() {
