@@ -7,8 +7,9 @@ import java.util.Comparator;
 /** Runs every static method without parameters of the test classes as a test; takes the path of CardTerminal.java. */
 public final class AllTests {
     private static final Class<?>[] TESTS = {
-        ExamplesTest.class, DataObjectsTest.class, CardTest.class, TerminalTest.class,
-        CandidatesTest.class, TransactionsTest.class, ModelTest.class, FaceTest.class, LanguageTest.class,
+        ExamplesTest.class, BufferTest.class, ReadingTest.class, ObjectsTest.class, CardTest.class,
+        TerminalTest.class, CandidatesTest.class, StartTest.class, AnswerTest.class, ReversalsTest.class,
+        TotalsTest.class, NoMoreTest.class, ModelTest.class, FaceTest.class, LanguageTest.class,
     };
 
     private AllTests() {

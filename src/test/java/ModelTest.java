@@ -89,9 +89,12 @@ final class ModelTest {
         return lastToo;
     }
 
+    /** A step may go on beyond the last call that the document promises an answer for; those answers are free. */
     private void same(String call, int got, int want) {
         calls++;
-        Checks.due(run + calls + ": " + call, got, want);
+        if (calls <= CALLS) {
+            Checks.due(run + calls + ": " + call, got, want);
+        }
     }
 
     private void appendAll(List<Integer> bytes) {
