@@ -12,6 +12,8 @@ public final class AllTests {
         TotalsTest.class, NoMoreTest.class, ModelTest.class, FaceTest.class, LanguageTest.class,
     };
 
+    private static final int LIMIT_IN_SECONDS = Integer.getInteger("limit", 300);
+
     private AllTests() {
     }
 
@@ -19,6 +21,7 @@ public final class AllTests {
         if (args.length > 0) {
             LanguageTest.source = args[0];
         }
+        watch();
         int passed = 0;
         int failed = 0;
         for (Class<?> tests : TESTS) {
@@ -33,6 +36,21 @@ public final class AllTests {
         }
         System.out.println("own: " + passed + " passed, " + failed + " failed");
         System.exit(failed == 0 && passed > 0 ? 0 : 1);
+    }
+
+    /** A call that does not end must fail the tests, not hold them up. */
+    private static void watch() {
+        Thread watcher = new Thread(() -> {
+            try {
+                Thread.sleep(LIMIT_IN_SECONDS * 1000L);
+            } catch (InterruptedException e) {
+                return;
+            }
+            System.out.println("FAILED: the tests have not ended in " + LIMIT_IN_SECONDS + " seconds");
+            Runtime.getRuntime().halt(1);
+        });
+        watcher.setDaemon(true);
+        watcher.start();
     }
 
     private static Method[] testsOf(Class<?> tests) {
