@@ -10,11 +10,16 @@ public final class AllTests {
         ExamplesTest.class, BufferTest.class, ReadingTest.class, ObjectsTest.class, CardTest.class,
         TerminalTest.class, CandidatesTest.class, StartTest.class, AnswerTest.class, ReversalsTest.class,
         TotalsTest.class, NoMoreTest.class, ModelTest.class, FaceTest.class, LanguageTest.class,
+        ReadmeTest.class,
     };
 
     private static final int LIMIT_IN_SECONDS = Integer.getInteger("limit", 300);
 
     private AllTests() {
+    }
+
+    static Class<?>[] tests() {
+        return TESTS.clone();
     }
 
     public static void main(String[] args) throws Exception {

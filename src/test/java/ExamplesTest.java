@@ -14,7 +14,6 @@ final class ExamplesTest {
         Checks.due("objectCount()", x.objectCount(), 2);
         Checks.due("objectTag(1)", x.objectTag(1), 79);
         Checks.due("objectDepth(1)", x.objectDepth(1), 1);
-        Checks.due("objectLength(1)", x.objectLength(1), 1);
         Checks.due("findObject(79, 0)", x.findObject(79, 0), 1);
         Checks.due("insertCard()", x.insertCard(), 0);
     }

@@ -48,8 +48,13 @@ final class FaceTest {
             }
         }
         same("the methods", shown, METHODS);
+        for (Class<?> inside : CardTerminal.class.getDeclaredClasses()) {
+            for (Method method : inside.getDeclaredMethods()) {
+                hiddenNames.add(method.getName());
+            }
+        }
         hiddenNames.retainAll(shownNames);
-        same("private methods with a public name", hiddenNames);
+        same("hidden methods with a public name", hiddenNames);
     }
 
     static void constants() throws IllegalAccessException {
